@@ -1,0 +1,286 @@
+import java.util.ArrayList;
+import java.util.Arrays;
+import java.util.List;
+import java.util.Random;
+
+/** Random runs of calls, whose answers are those of the model; the seeds are fixed, so that each run is the same again. */
+public final class AgainstModelTest {
+    private static final String[] NAMES = {"box", "cable", "turn", "isBlocked", "net", "sees", "address", "gateway", "route", "rule",
+        "watch", "pool", "send", "tick", "fate", "where", "source", "frames", "noted", "learnt", "reach", "reachAnew", "proved", "way"};
+    private static final int BOX = 0, CABLE = 1, TURN = 2, BLOCKED = 3, NET = 4, SEES = 5, ADDRESS = 6, GATEWAY = 7, ROUTE = 8, RULE = 9,
+        WATCH = 10, POOLS = 11, SEND = 12, TICK = 13, FATE = 14, WHERE = 15, SOURCE = 16, FRAMES = 17, NOTED = 18, LEARNT = 19,
+        REACH = 20, ANEW = 21, PROVED = 22, WAY = 23;
+    private static final int[] ARGUMENTS = {1, 2, 1, 1, 2, 2, 3, 2, 4, 7, 2, 3, 3, 1, 1, 1, 1, 0, 2, 3, 2, 2, 3, 4};
+
+    private final long seed;
+    private final Random random;
+    private final DrystoneSimnet program = new DrystoneSimnet();
+    private final Model model = new Model();
+    private final List<String> trace = new ArrayList<>();
+    private boolean wrong;
+    private final List<Integer> kinds = new ArrayList<>();
+    private int calls;
+    private static final long[] FATES = new long[9];
+    private static final long[] PROOFS = new long[9];
+    private static final long[] THROWN = new long[24];
+    private static long replies, translated, mostFrames, farthest, reached;
+
+    private AgainstModelTest(long seed) { this.seed = seed; random = new Random(seed); }
+
+    private static long ask(DrystoneSimnet x, int op, int[] a) {
+        switch (op) {
+            case BOX: return x.box(a[0]);
+            case CABLE: return x.cable(a[0], a[1]);
+            case TURN: return x.turn(a[0]) ? 1 : 0;
+            case BLOCKED: return x.isBlocked(a[0]) ? 1 : 0;
+            case NET: return x.net(a[0], a[1]);
+            case SEES: return x.sees(a[0], a[1]) ? 1 : 0;
+            case ADDRESS: return x.address(a[0], a[1], a[2]);
+            case GATEWAY: return x.gateway(a[0], a[1]);
+            case ROUTE: return x.route(a[0], a[1], a[2], a[3]);
+            case RULE: return x.rule(a[0], a[1], a[2], a[3], a[4], a[5], a[6] != 0);
+            case WATCH: return x.watch(a[0], a[1] != 0) ? 1 : 0;
+            case POOLS: return x.pool(a[0], a[1], a[2]);
+            case SEND: return x.send(a[0], a[1], a[2]);
+            case TICK: return x.tick(a[0]);
+            case FATE: return x.fate(a[0]);
+            case WHERE: return x.where(a[0]);
+            case SOURCE: return x.source(a[0]);
+            case FRAMES: return x.frames();
+            case NOTED: return x.noted(a[0], a[1]);
+            case LEARNT: return x.learnt(a[0], a[1], a[2]);
+            case REACH: return x.reach(a[0], a[1]);
+            case ANEW: return x.reachAnew(a[0], a[1]);
+            case PROVED: return x.proved(a[0], a[1], a[2]);
+            default: return x.way(a[0], a[1], a[2], a[3]);
+        }
+    }
+
+    private static long ask(Model x, int op, int[] a) {
+        switch (op) {
+            case BOX: return x.box(a[0]);
+            case CABLE: return x.cable(a[0], a[1]);
+            case TURN: return x.turn(a[0]) ? 1 : 0;
+            case BLOCKED: return x.isBlocked(a[0]) ? 1 : 0;
+            case NET: return x.net(a[0], a[1]);
+            case SEES: return x.sees(a[0], a[1]) ? 1 : 0;
+            case ADDRESS: return x.address(a[0], a[1], a[2]);
+            case GATEWAY: return x.gateway(a[0], a[1]);
+            case ROUTE: return x.route(a[0], a[1], a[2], a[3]);
+            case RULE: return x.rule(a[0], a[1], a[2], a[3], a[4], a[5], a[6] != 0);
+            case WATCH: return x.watch(a[0], a[1] != 0) ? 1 : 0;
+            case POOLS: return x.pool(a[0], a[1], a[2]);
+            case SEND: return x.send(a[0], a[1], a[2]);
+            case TICK: return x.tick(a[0]);
+            case FATE: return x.fate(a[0]);
+            case WHERE: return x.where(a[0]);
+            case SOURCE: return x.source(a[0]);
+            case FRAMES: return x.frames();
+            case NOTED: return x.noted(a[0], a[1]);
+            case LEARNT: return x.learnt(a[0], a[1], a[2]);
+            case REACH: case ANEW: return x.reach(a[0], a[1]);
+            case PROVED: return x.proved(a[0], a[1], a[2]);
+            default: return x.way(a[0], a[1], a[2], a[3]);
+        }
+    }
+
+    private static String answer(Object x, int op, int[] a) {
+        try {
+            return String.valueOf(x instanceof Model ? ask((Model) x, op, a) : ask((DrystoneSimnet) x, op, a));
+        } catch (RuntimeException e) {
+            return "throws." + e.getClass().getSimpleName();
+        }
+    }
+
+    /** Makes the call on both; the answer, or NONE if it throws. */
+    private int call(int op, int... a) {
+        if (wrong || calls >= 512) return -1;
+        calls++;
+        String due = answer(model, op, a);
+        String got = answer(program, op, a);
+        trace.add(NAMES[op] + Arrays.toString(a) + " answered " + got);
+        if (!due.equals(got)) {
+            wrong = true;
+            System.out.println("seed " + seed + ", call " + calls + ": " + trace.get(trace.size() - 1) + ", due is " + due);
+            if (Boolean.getBoolean("trace")) trace.forEach(System.out::println);
+        }
+        if (due.startsWith("throws")) { THROWN[op]++; return -1; }
+        return Integer.parseInt(due);
+    }
+
+    private int any(int many) { return random.nextInt(many); }
+    private boolean chance(int percent) { return any(100) < percent; }
+    private int oneOf(int... all) { return all[any(all.length)]; }
+
+    private int addBox(int kind) {
+        int number = call(BOX, kind);
+        if (number >= 0) kinds.add(kind);
+        return number;
+    }
+    private int boxOf(int kind) {
+        List<Integer> found = new ArrayList<>();
+        for (int i = 0; i < kinds.size(); i++) if (kinds.get(i) == kind) found.add(i);
+        return found.isEmpty() ? any(10) : found.get(any(found.size()));
+    }
+    private int portsOf(int box) { return kinds.get(box) == Model.HOST ? 1 : kinds.get(box) == Model.BRIDGE ? 4 : 3; }
+    private int portOf(int box) { return box < kinds.size() ? 4 * box + any(portsOf(box)) : any(40); }
+    private int station() { return portOf(boxOf(chance(50) ? Model.HOST : Model.ROUTER)); }
+    private int usedAddress() {
+        List<Integer> found = new ArrayList<>();
+        for (Model.Port p : model.ports) {
+            if (p.address != Model.NONE) found.add(p.address);
+            if (p.many > 0 && chance(50)) found.add(p.from + any(p.many));
+        }
+        return found.isEmpty() || chance(10) ? any(64) : found.get(any(found.size()));
+    }
+
+    private void buildBoxes() {
+        int style = any(5);
+        int[] many = style == 0 ? new int[] {3, 3, 3} : style == 1 ? new int[] {2, 0, 8} : style == 2 ? new int[] {5, 4, 1}
+            : style == 3 ? new int[] {1 + any(4), any(4), 1 + any(3)} : new int[] {2, 6, 2};
+        List<Integer> all = new ArrayList<>();
+        for (int kind = 0; kind < 3; kind++) for (int i = 0; i < many[kind]; i++) all.add(kind);
+        java.util.Collections.shuffle(all, random);
+        for (int kind : all) addBox(kind);
+        int cables = 4 + any(13);
+        for (int i = 0; i < 60 && model.cables.size() < cables; i++) {
+            int a = freePort(), b = freePort();
+            if (a >= 0 && b >= 0 && a / 4 != b / 4) call(CABLE, a, b);
+        }
+        if (chance(30)) for (int i = 0; i < 6; i++) call(NET, portOf(boxOf(Model.BRIDGE)), oneOf(0, 1, 2, 4, 4));
+    }
+    private int freePort() {
+        for (int i = 0; i < 20; i++) {
+            int p = portOf(any(kinds.size()));
+            if (model.cableOf(p) == Model.NONE) return p;
+        }
+        return -1;
+    }
+
+    /** Ports that hang together get addresses of one prefix, mostly. */
+    private void giveAddresses() {
+        int[] lan = new int[40];
+        for (int i = 0; i < 40; i++) lan[i] = i / 4 < kinds.size() && kinds.get(i / 4) == Model.BRIDGE ? 100 + i / 4 : i;
+        for (int round = 0; round < 20; round++) for (Model.Cable c : model.cables) {
+            int low = Math.min(lan[c.a], lan[c.b]), high = Math.max(lan[c.a], lan[c.b]);
+            for (int i = 0; i < 40; i++) if (lan[i] == high) lan[i] = low;
+        }
+        int[] base = new int[120], length = new int[120];
+        for (int i = 0; i < 120; i++) { length[i] = oneOf(2, 3, 3, 4, 4, 5); base[i] = any(64); }
+        for (int p = 0; p < 40; p++) {
+            if (!model.isPort(p) || kinds.get(p / 4) == Model.BRIDGE || chance(8)) continue;
+            int size = 64 >> length[lan[p]];
+            int address = chance(8) ? any(64) : base[lan[p]] / size * size + any(Math.min(size, 6));
+            call(ADDRESS, p, address, chance(10) ? 1 + any(6) : length[lan[p]]);
+        }
+        for (int b = 0; b < kinds.size(); b++) {
+            if (kinds.get(b) != Model.HOST) continue;
+            List<Integer> near = new ArrayList<>();
+            for (int p = 0; p < 40; p++) if (lan[p] == lan[4 * b] && p != 4 * b && model.ports[p].address >= 0
+                && (kinds.get(p / 4) == Model.ROUTER || chance(10))) near.add(model.ports[p].address);
+            if (!near.isEmpty()) call(GATEWAY, b, near.get(any(near.size())));
+            else if (chance(20)) call(GATEWAY, b, any(64));
+        }
+    }
+
+    private void tellRouter() {
+        int r = boxOf(Model.ROUTER);
+        switch (any(6)) {
+            case 0: call(ROUTE, r, usedAddress(), oneOf(0, 0, 2, 3, 4, 6, any(7)), usedAddress()); break;
+            case 1: call(RULE, r, usedAddress(), oneOf(0, 0, 3, 4, 6), usedAddress(), oneOf(0, 0, 3, 4, 6), oneOf(-1, -1, any(4)), any(3) == 0 ? 1 : 0); break;
+            case 2: call(WATCH, r, any(4) == 0 ? 0 : 1); break;
+            case 3: call(POOLS, portOf(r), any(61), oneOf(0, 1, 1, 2, 3, 4)); break;
+            case 4: call(RULE, r, usedAddress(), oneOf(3, 4, 6), usedAddress(), oneOf(3, 4, 6), any(4), 1); break;
+            default: call(ROUTE, r, usedAddress(), any(7), usedAddress()); break;
+        }
+    }
+
+    private void sendSome() {
+        int many = chance(10) ? 8 : 1 + any(2);
+        for (int i = 0; i < many; i++) {
+            int packet;
+            if (chance(30) && !model.packets.isEmpty()) packet = reply();
+            else packet = call(SEND, boxOf(Model.HOST), usedAddress(), any(4));
+            if (packet >= 0 && chance(50)) call(FATE, packet);
+        }
+        call(FRAMES);
+        mostFrames = Math.max(mostFrames, model.frames.size());
+    }
+    private int reply() {
+        int p = any(model.packets.size());
+        Model.Packet packet = model.packets.get(p);
+        if (packet.fate != Model.DELIVERED || packet.source == Model.NONE || kinds.get(packet.where) != Model.HOST) return -1;
+        replies++;
+        if (packet.source != model.ports[4 * packet.where].address) translated++;
+        return call(SEND, packet.where, packet.source, packet.service);
+    }
+
+    private void askSome() {
+        int packets = Math.max(1, model.packets.size());
+        switch (any(12)) {
+            case 0: call(BLOCKED, any(Math.max(1, model.cables.size()))); break;
+            case 1: call(SEES, station(), station()); break;
+            case 2: case 3: call(FATE, any(packets)); break;
+            case 4: call(WHERE, any(packets)); break;
+            case 5: call(SOURCE, any(packets)); break;
+            case 6: call(NOTED, boxOf(Model.BRIDGE), station()); break;
+            case 7: case 8: farthest = Math.max(farthest, call(LEARNT, boxOf(Model.ROUTER), usedAddress(), 1 + any(6))); break;
+            case 9: {
+                int host = boxOf(Model.HOST), to = any(kinds.size());
+                reached += Math.max(0, call(REACH, host, to));
+                call(ANEW, host, to);
+                break;
+            }
+            case 10: {
+                int answer = call(PROVED, boxOf(Model.HOST), usedAddress(), any(4));
+                if (answer >= 0) PROOFS[answer / 10]++;
+                break;
+            }
+            default: call(WAY, boxOf(Model.HOST), usedAddress(), any(4), any(4)); break;
+        }
+    }
+
+    private void callWildly() {
+        int op = any(24);
+        int[] a = new int[ARGUMENTS[op]];
+        int[] tops = {1, 3, 8, 12, 45, 70, 70};
+        for (int i = 0; i < a.length; i++) a[i] = chance(5) ? oneOf(Integer.MIN_VALUE, Integer.MAX_VALUE, -2, 64, 65, 40, 41) : any(tops[any(7)]) - 1;
+        if (op == BOX || op == WATCH && chance(50)) return;
+        call(op, a);
+    }
+
+    private void run() {
+        buildBoxes();
+        giveAddresses();
+        for (int i = any(8); i > 0; i--) tellRouter();
+        if (chance(70)) call(TICK, 8);
+        while (calls < 512 && !wrong) {
+            int dice = any(100);
+            if (dice < 20) sendSome();
+            else if (dice < 50) call(TICK, chance(5) ? oneOf(18, 19, 20, 21, 28, 29, 30) : 1 + any(3));
+            else if (dice < 55) call(TURN, any(Math.max(1, model.cables.size())));
+            else if (dice < 57) call(NET, portOf(boxOf(Model.BRIDGE)), any(5));
+            else if (dice < 58) call(ADDRESS, station(), usedAddress(), 1 + any(6));
+            else if (dice < 63) tellRouter();
+            else if (dice < 67) callWildly();
+            else askSome();
+        }
+        for (Model.Packet p : model.packets) FATES[p.fate]++;
+    }
+
+    public static void main(String[] args) {
+        int from = args.length > 0 ? Integer.parseInt(args[0]) : 1;
+        int runs = args.length > 1 ? Integer.parseInt(args[1]) : 150;
+        int wrong = 0;
+        for (int seed = from; seed < from + runs; seed++) {
+            AgainstModelTest test = new AgainstModelTest(seed);
+            test.run();
+            if (test.wrong) wrong++;
+        }
+        System.out.println("fates " + Arrays.toString(FATES) + ", proved " + Arrays.toString(PROOFS) + ", replies " + replies
+            + ", to translated ones " + translated + ", most frames " + mostFrames + ", farthest " + farthest + ", headers reached " + reached);
+        System.out.println("thrown " + Arrays.toString(THROWN));
+        System.out.println(runs + " runs, " + wrong + " with a wrong answer");
+        if (wrong != 0) System.exit(1);
+    }
+}

@@ -1066,10 +1066,11 @@ public final class DrystoneSimnet {
         private int dest;
         private int passed;
 
-        void copyFrom(Frame other) {
+        /** Becomes the one that another one is on the next cable. */
+        void goOn(Frame other, int nextTowards, int nextTag) {
             packet = other.packet;
-            towards = other.towards;
-            tag = other.tag;
+            towards = nextTowards;
+            tag = nextTag;
             sender = other.sender;
             target = other.target;
             source = other.source;
@@ -1258,10 +1259,7 @@ public final class DrystoneSimnet {
             if (towards == NONE || onCables >= MAX_FRAMES) {
                 return;
             }
-            Frame place = ring[(first + onCables) % RING];
-            place.copyFrom(frame);
-            place.towards = towards;
-            place.tag = tag;
+            ring[(first + onCables) % RING].goOn(frame, towards, tag);
             onCables++;
             framesOf[frame.packet]++;
         }

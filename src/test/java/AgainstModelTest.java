@@ -20,6 +20,8 @@ public final class AgainstModelTest {
     private boolean wrong;
     private final List<Integer> kinds = new ArrayList<>();
     private int calls;
+    /** A sensible net hangs together, and each of its parts has a prefix and addresses of its own. */
+    private boolean sensible;
     private static final long[] FATES = new long[9];
     private static final long[] PROOFS = new long[9];
     private static final long[] THROWN = new long[24];
@@ -135,19 +137,33 @@ public final class AgainstModelTest {
     }
 
     private void buildBoxes() {
-        int style = any(5);
-        int[] many = style == 0 ? new int[] {3, 3, 3} : style == 1 ? new int[] {2, 0, 8} : style == 2 ? new int[] {5, 4, 1}
-            : style == 3 ? new int[] {1 + any(4), any(4), 1 + any(3)} : new int[] {2, 6, 2};
+        sensible = chance(60);
+        int[][] styles = {{3, 3, 3}, {2, 0, 8}, {5, 4, 1}, {1 + any(4), any(4), 1 + any(3)}, {2, 6, 2}, {4, 2, 4}, {6, 2, 2}, {3, 1, 4}};
+        int[] many = styles[any(styles.length)];
         List<Integer> all = new ArrayList<>();
         for (int kind = 0; kind < 3; kind++) for (int i = 0; i < many[kind]; i++) all.add(kind);
         java.util.Collections.shuffle(all, random);
         for (int kind : all) addBox(kind);
-        int cables = 4 + any(13);
+        int cables = sensible ? 9 + any(5) : 4 + any(13);
+        for (int b = 1; sensible && b < kinds.size(); b++) {
+            for (int i = 0; i < 40 && !hangs(b); i++) {
+                int a = freePortOf(b), c = freePort();
+                if (a >= 0 && c >= 0 && c / 4 < b) call(CABLE, a, c);
+            }
+        }
         for (int i = 0; i < 60 && model.cables.size() < cables; i++) {
             int a = freePort(), b = freePort();
             if (a >= 0 && b >= 0 && a / 4 != b / 4) call(CABLE, a, b);
         }
         if (chance(30)) for (int i = 0; i < 6; i++) call(NET, portOf(boxOf(Model.BRIDGE)), oneOf(0, 1, 2, 4, 4));
+    }
+    private boolean hangs(int box) {
+        for (Model.Cable c : model.cables) if (c.a / 4 == box || c.b / 4 == box) return true;
+        return false;
+    }
+    private int freePortOf(int box) {
+        for (int i = 0; i < portsOf(box); i++) if (model.cableOf(4 * box + i) == Model.NONE) return 4 * box + i;
+        return -1;
     }
     private int freePort() {
         for (int i = 0; i < 20; i++) {
@@ -167,11 +183,19 @@ public final class AgainstModelTest {
         }
         int[] base = new int[120], length = new int[120];
         for (int i = 0; i < 120; i++) { length[i] = oneOf(2, 3, 3, 4, 4, 5); base[i] = any(64); }
+        int[] given = new int[120];
+        int block = any(8);
+        for (int i = 0; sensible && i < 120; i++) {
+            boolean used = false;
+            for (int p = 0; p < 40; p++) used |= lan[p] == i && model.isPort(p) && kinds.get(p / 4) != Model.BRIDGE && model.cableOf(p) >= 0;
+            if (used) { length[i] = 3; base[i] = 8 * (block++ % 8); }
+        }
         for (int p = 0; p < 40; p++) {
-            if (!model.isPort(p) || kinds.get(p / 4) == Model.BRIDGE || chance(8)) continue;
+            if (!model.isPort(p) || kinds.get(p / 4) == Model.BRIDGE || chance(sensible ? 2 : 8)) continue;
+            if (sensible && model.cableOf(p) < 0) continue;
             int size = 64 >> length[lan[p]];
-            int address = chance(8) ? any(64) : base[lan[p]] / size * size + any(Math.min(size, 6));
-            call(ADDRESS, p, address, chance(10) ? 1 + any(6) : length[lan[p]]);
+            int address = sensible ? base[lan[p]] + given[lan[p]]++ % 8 : chance(8) ? any(64) : base[lan[p]] / size * size + any(Math.min(size, 6));
+            call(ADDRESS, p, address, !sensible && chance(10) ? 1 + any(6) : length[lan[p]]);
         }
         for (int b = 0; b < kinds.size(); b++) {
             if (kinds.get(b) != Model.HOST) continue;
@@ -189,17 +213,38 @@ public final class AgainstModelTest {
             case 0: call(ROUTE, r, usedAddress(), oneOf(0, 0, 2, 3, 4, 6, any(7)), usedAddress()); break;
             case 1: call(RULE, r, usedAddress(), oneOf(0, 0, 3, 4, 6), usedAddress(), oneOf(0, 0, 3, 4, 6), oneOf(-1, -1, any(4)), any(3) == 0 ? 1 : 0); break;
             case 2: call(WATCH, r, any(4) == 0 ? 0 : 1); break;
-            case 3: call(POOLS, portOf(r), any(61), oneOf(0, 1, 1, 2, 3, 4)); break;
+            case 3: call(POOLS, portOf(r), any(61), oneOf(0, 1, 1, 1, 2, 3, 4)); break;
             case 4: call(RULE, r, usedAddress(), oneOf(3, 4, 6), usedAddress(), oneOf(3, 4, 6), any(4), 1); break;
-            default: call(ROUTE, r, usedAddress(), any(7), usedAddress()); break;
+            default: tellTheNext(r); break;
         }
     }
 
+    private void turnOne() {
+        int cable = any(Math.max(1, model.cables.size()));
+        for (int c = 0; c < model.cables.size() && chance(60); c++) if (model.cables.get(c).broken) cable = c;
+        call(TURN, cable);
+    }
+
+    /** A short route by a neighbour, so that packets go round. */
+    private void tellTheNext(int router) {
+        List<Integer> near = new ArrayList<>();
+        for (int p = 0; p < 40; p++) for (int own = 4 * router; own < 4 * router + 3; own++) {
+            if (model.ports[p].address >= 0 && model.isPort(own) && model.isPort(p) && model.view(own, p)) near.add(model.ports[p].address);
+        }
+        call(ROUTE, router, usedAddress(), oneOf(0, 0, 1, 4, 6), near.isEmpty() ? any(64) : near.get(any(near.size())));
+    }
+
     private void sendSome() {
-        int many = chance(10) ? 8 : 1 + any(2);
-        for (int i = 0; i < many; i++) {
+        int many = chance(4) ? 30 : chance(10) ? 8 : 1 + any(2);
+        if (model.packets.size() == 60 && chance(95)) return;
+        int host = boxOf(Model.HOST), dest = usedAddress();
+        boolean all = chance(15);
+        for (int i = 0; i < (all ? kinds.size() : many); i++) {
             int packet;
-            if (chance(30) && !model.packets.isEmpty()) packet = reply();
+            if (all && kinds.get(i) != Model.HOST) continue;
+            if (all) packet = call(SEND, i, dest, any(4));
+            else if (chance(30) && !model.packets.isEmpty()) packet = reply();
+            else if (many == 30) packet = call(SEND, host, dest, any(4));
             else packet = call(SEND, boxOf(Model.HOST), usedAddress(), any(4));
             if (packet >= 0 && chance(50)) call(FATE, packet);
         }
@@ -256,9 +301,9 @@ public final class AgainstModelTest {
         if (chance(70)) call(TICK, 8);
         while (calls < 512 && !wrong) {
             int dice = any(100);
-            if (dice < 20) sendSome();
-            else if (dice < 50) call(TICK, chance(5) ? oneOf(18, 19, 20, 21, 28, 29, 30) : 1 + any(3));
-            else if (dice < 55) call(TURN, any(Math.max(1, model.cables.size())));
+            if (dice < 12) sendSome();
+            else if (dice < 50) call(TICK, chance(12) ? oneOf(18, 19, 20, 21, 28, 29, 30) : 1 + any(3));
+            else if (dice < 55) turnOne();
             else if (dice < 57) call(NET, portOf(boxOf(Model.BRIDGE)), any(5));
             else if (dice < 58) call(ADDRESS, station(), usedAddress(), 1 + any(6));
             else if (dice < 63) tellRouter();

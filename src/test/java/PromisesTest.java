@@ -453,6 +453,14 @@ public final class PromisesTest {
         x.send(0, 10, 1);
         x.tick(2);
         due("noted anew", reply(x, 1), DELIVERED);
+        x.send(0, 10, 1);
+        x.tick(1);
+        due("it did so again", x.watch(1, true), true);
+        x.tick(1);
+        due("what was noted in the tick just passed is forgotten, too", reply(x, 1), FILTERED);
+        x.send(0, 10, 1);
+        x.tick(1);
+        due("and the first one behind that is not", reply(x, 1), DELIVERED);
         due("it did likewise", x.watch(1, false), true);
         due("not watching", reply(x, 1), FILTERED);
         due("it did not watch", x.watch(1, true), false);
@@ -639,6 +647,10 @@ public final class PromisesTest {
         back = x.send(2, 50, 0);
         x.tick(3);
         fate("of several the lowest alone", x, back, WRONG, 4, 49);
+        x.pool(port(1, 0), 48, 2);
+        back = x.send(2, 50, 0);
+        x.tick(3);
+        fate("one that ends ahead of the address is not asked", x, back, DELIVERED, 0, 48);
     }
 
     private static void promise14Send() {
@@ -671,6 +683,8 @@ public final class PromisesTest {
         int packet = y.send(0, 5, 0);
         y.tick(1);
         fate("straight", y, packet, DELIVERED, 1, 4);
+        DrystoneSimnet w = pair();
+        fate("to itself by a bridge", w, w.send(0, 1, 0), NO_ONE, 0, 1);
         DrystoneSimnet z = boxes(HOST, BRIDGE, HOST, HOST);
         z.cable(0, 4);
         z.cable(8, 5);
@@ -1056,6 +1070,25 @@ public final class PromisesTest {
             due("1 hears of it from 0 at tick " + tick, x.learnt(1, 4, 4), tick % 2 == 1 && tick <= 6 ? 10000 * (tick + 1) + port(0, 1) : NONE);
         }
         due("the new one", x.learnt(0, 40, 4), 10000 + 100 + port(1, 0));
+        DrystoneSimnet y = boxes(ROUTER, ROUTER, ROUTER);
+        y.cable(port(0, 0), port(1, 0));
+        y.cable(port(0, 1), port(2, 0));
+        y.address(port(0, 0), 0, 4);
+        y.address(port(1, 0), 1, 4);
+        y.address(port(0, 1), 4, 4);
+        y.address(port(2, 0), 5, 4);
+        y.address(port(2, 1), 32, 4);
+        y.tick(4);
+        due("of the third", y.learnt(0, 33, 4), 10100 + port(2, 0));
+        due("of the third by the first", y.learnt(1, 33, 4), 20000 + port(0, 0));
+        y.turn(1);
+        int[] first = {3, 3, 5, 5, 7, 7, 0, 0};
+        int[] second = {2, 4, 4, 6, 6, 0, 0, 0};
+        for (int tick = 0; tick < 8; tick++) {
+            y.tick(1);
+            due("the first hears it from the second", y.learnt(0, 33, 4), first[tick] == 0 ? NONE : 10000 * first[tick] + port(1, 0));
+            due("the second from the first", y.learnt(1, 33, 4), second[tick] == 0 ? NONE : 10000 * second[tick] + port(0, 0));
+        }
     }
     private static void tiesOfLearning() {
         DrystoneSimnet x = boxes(ROUTER, ROUTER, BRIDGE, BRIDGE, ROUTER);
@@ -1084,6 +1117,10 @@ public final class PromisesTest {
         x.address(port(4, 0), 9, 6);
         x.tick(1);
         due("with one it does", x.learnt(0, 8, 6), 10100 + port(4, 0));
+        due("of length 1", x.learnt(0, 9, 1), NONE);
+        x.address(port(4, 2), 32, 1);
+        x.tick(1);
+        due("learnt of length 1", x.learnt(0, 63, 1), 10100 + port(4, 0));
         x.route(4, 30, 6, 3);
         x.tick(2);
         due("told routes are not told on", x.learnt(0, 30, 6), NONE);
@@ -1125,6 +1162,10 @@ public final class PromisesTest {
         x.box(HOST);
         both("without an address", x, 4, 0, 0);
         poolsInProofs();
+        routesInProofs();
+        levelsInProofs();
+        settlingInProofs();
+        lowestInProofs();
         DrystoneSimnet y = chain(9);
         y.box(HOST);
         y.cable(port(9, 0), port(0, 0));
@@ -1179,6 +1220,209 @@ public final class PromisesTest {
         int packet = x.send(4, 44, 0);
         x.tick(4);
         fate("though a packet is", x, packet, DELIVERED, 0, 34);
+    }
+
+    /** A host with 0/3 and a gateway, a router with hosts on both sides, routes of all kinds and lengths. */
+    private static void routesInProofs() {
+        DrystoneSimnet x = boxes(HOST, BRIDGE, ROUTER, HOST, HOST, ROUTER, BRIDGE);
+        x.cable(port(0, 0), port(1, 0));
+        x.cable(port(2, 0), port(1, 1));
+        x.cable(port(3, 0), port(1, 2));
+        x.cable(port(4, 0), port(6, 1));
+        x.cable(port(2, 1), port(6, 0));
+        x.cable(port(5, 0), port(6, 2));
+        x.address(port(0, 0), 1, 3);
+        x.address(port(3, 0), 0, 3);
+        x.address(port(2, 0), 2, 3);
+        x.address(port(2, 1), 8, 3);
+        x.address(port(4, 0), 9, 3);
+        x.address(port(5, 0), 9, 3);
+        x.address(port(5, 1), 40, 3);
+        x.gateway(0, 2);
+        both("the address 0", x, 0, 3, 4);
+        both("the lowest port of those with an address", x, 0, 4, 4);
+        both("the higher one by what is learnt", x, 0, 5, 4);
+        x.route(2, 63, 0, 9);
+        both("a route for all to a host delivers nothing more", x, 0, 4, 4);
+        x.turn(3);
+        both("the higher one when the lower one is not seen", x, 0, 5, 8);
+        x.address(port(5, 2), 63, 6);
+        both("learnt goes ahead of the route for all, as it is longer", x, 0, 5, 12);
+        x.route(2, 63, 6, 2);
+        both("told goes ahead of learnt of one length", x, 0, 5, 8);
+        x.route(2, 40, 2, 9);
+        both("learnt goes ahead of a shorter one", x, 0, 5, 8);
+        x.route(2, 40, 4, 33);
+        both("not of a longer one without a way", x, 0, 5, 4);
+        x.route(2, 40, 6, 9);
+        both("but that of a still longer one", x, 0, 5, 8);
+        x.route(2, 40, 6, 33);
+        both("the first of two", x, 0, 5, 8);
+        x.turn(3);
+        both("told to a host", x, 0, 5, 0);
+        both("still its own", x, 0, 4, 4);
+        DrystoneSimnet y = boxes(HOST, ROUTER, ROUTER);
+        y.cable(port(0, 0), port(1, 0));
+        y.cable(port(1, 1), port(2, 0));
+        y.address(port(0, 0), 1, 3);
+        y.gateway(0, 2);
+        y.address(port(1, 0), 2, 3);
+        y.address(port(1, 1), 8, 3);
+        y.address(port(2, 0), 9, 3);
+        y.address(port(2, 1), 30, 2);
+        y.address(port(2, 2), 46, 1);
+        both("learnt ones of several lengths", y, 0, 2, 12);
+        y.route(1, 46, 1, 8);
+        both("told ahead of learnt of length 1: its own address", y, 0, 2, 8);
+        y.rule(1, 1, 6, 30, 6, 2, false);
+        y.rule(1, 1, 6, 30, 6, 2, true);
+        y.rule(2, 1, 6, 9, 6, 1, false);
+        both("rules of the router that is met first", y, 0, 2, 7);
+    }
+    /** Each kind of proof settles the net by itself, and anew when it was changed. */
+    private static void settlingInProofs() {
+        for (int kind = 0; kind < 4; kind++) {
+            DrystoneSimnet x = chain(3);
+            x.box(HOST);
+            x.cable(port(3, 0), port(0, 0));
+            x.address(port(0, 0), 60, 4);
+            x.address(port(3, 0), 61, 4);
+            x.gateway(3, 60);
+            due("proof " + kind, settled(x, kind), true);
+            x.turn(1);
+            due("proof " + kind + " with a broken cable", settled(x, kind), false);
+            x.turn(1);
+            due("proof " + kind + " with the cable mended", settled(x, kind), true);
+            x.tick(3);
+            due("proof " + kind + " when it is learnt", settled(x, kind), true);
+            x.turn(0);
+            x.turn(1);
+            x.turn(0);
+            due("proof " + kind + " with a broken cable, and no tick yet", settled(x, kind), false);
+        }
+        routeForAll();
+    }
+    private static void routeForAll() {
+        DrystoneSimnet x = boxes(HOST, ROUTER, ROUTER);
+        x.cable(port(0, 0), port(1, 0));
+        x.cable(port(1, 1), port(2, 0));
+        x.address(port(0, 0), 1, 3);
+        x.gateway(0, 2);
+        x.address(port(1, 0), 2, 3);
+        x.address(port(1, 1), 8, 3);
+        x.address(port(2, 1), 40, 3);
+        x.route(1, 63, 0, 9);
+        both("nobody is at the next address", x, 0, 2, 0);
+        x.address(port(2, 0), 9, 3);
+        both("the link by its prefix, the other by what is learnt", x, 0, 2, 8);
+        DrystoneSimnet y = boxes(HOST, ROUTER, HOST, HOST);
+        y.cable(port(0, 0), port(1, 0));
+        y.cable(port(1, 1), port(2, 0));
+        y.cable(port(1, 2), port(3, 0));
+        y.address(port(0, 0), 1, 3);
+        y.gateway(0, 2);
+        y.address(port(1, 0), 2, 3);
+        y.address(port(1, 1), 9, 6);
+        y.address(port(1, 2), 16, 3);
+        y.address(port(3, 0), 17, 3);
+        y.address(port(2, 0), 33, 3);
+        both("no way", y, 0, 2, 0);
+        y.route(1, 7, 0, 9);
+        both("nobody is at its own address", y, 0, 2, 0);
+        y.address(port(2, 0), 9, 3);
+        both("delivered at the router, not at the host with that address", y, 0, 2, 0);
+        y.address(port(1, 1), 8, 3);
+        both("the host by its prefix", y, 0, 2, 4);
+        DrystoneSimnet z = boxes(HOST, ROUTER, ROUTER);
+        z.cable(port(0, 0), port(1, 0));
+        z.cable(port(1, 1), port(2, 0));
+        z.address(port(0, 0), 1, 3);
+        z.gateway(0, 2);
+        z.address(port(1, 0), 2, 3);
+        z.address(port(1, 1), 8, 3);
+        z.address(port(2, 0), 9, 3);
+        z.route(1, 40, 0, 9);
+        both("what nobody tells yet", z, 0, 2, 4);
+        z.turn(1);
+        z.address(port(2, 1), 40, 3);
+        both("not by a broken cable", z, 0, 2, 0);
+        z.turn(1);
+        z.rule(1, 0, 0, 40, 6, 0, false);
+        both("learnt", z, 0, 2, 7);
+    }
+    private static boolean settled(DrystoneSimnet x, int kind) {
+        switch (kind) {
+            case 0: return x.reach(3, 2) > 0;
+            case 1: return x.reachAnew(3, 2) > 0;
+            case 2: return x.proved(3, 5, 3) == 10 * DELIVERED + 2;
+            default: return x.way(3, 5, 3, 1) == 1;
+        }
+    }
+    /** The lowest address, and the lowest prefix of each length. */
+    private static void lowestInProofs() {
+        for (int length = 1; length <= 6; length++) {
+            DrystoneSimnet x = boxes(HOST, ROUTER, ROUTER);
+            x.cable(port(0, 0), port(1, 0));
+            x.cable(port(1, 1), port(2, 0));
+            x.address(port(0, 0), 61, 4);
+            x.gateway(0, 62);
+            x.address(port(1, 0), 62, 4);
+            x.address(port(1, 1), 40, 4);
+            x.address(port(2, 0), 41, 4);
+            x.address(port(2, 1), 0, length);
+            both("learnt, of length " + length, x, 0, 2, 8);
+            x.turn(1);
+            x.address(port(2, 0), 0, length);
+            x.address(port(1, 1), 40, 6);
+            x.address(port(2, 2), 1, 6);
+            x.turn(1);
+            x.pool(port(1, 1), 0, 4);
+            x.rule(2, 0, 6, 1, 6, NONE, false);
+            both("the address itself alone", x, 0, 2, 8);
+            x.route(1, 0, length, 40);
+            both("its own next address", x, 0, 2, 4);
+        }
+        for (int dest = 0; dest < 64; dest += 63) {
+            DrystoneSimnet x = boxes(HOST, HOST);
+            x.cable(0, 4);
+            x.address(0, 30, 6);
+            x.gateway(0, dest);
+            x.address(4, dest, 1);
+            both("by the gateway", x, 0, 1, 4);
+            x.address(0, dest ^ 1, 1);
+            both("straight", x, 0, 1, 4);
+        }
+    }
+    /** Headers go round between routers until they are old. */
+    private static void levelsInProofs() {
+        DrystoneSimnet x = chain(3);
+        for (int i = 3; i < 10; i++) x.box(i == 3 ? HOST : ROUTER);
+        x.cable(port(3, 0), port(0, 0));
+        x.address(port(3, 0), 60, 4);
+        x.address(port(0, 0), 61, 4);
+        x.gateway(3, 61);
+        x.route(0, 56, 5, 1);
+        x.route(1, 56, 5, 0);
+        x.address(port(2, 1), 57, 6);
+        both("a longer learnt one leads out of the ring", x, 3, 2, 8);
+        due("another one goes round", x.proved(3, 56, 0), 10 * OLD + 0);
+        both("nothing of that is delivered", x, 3, 1, 8);
+        for (int i = 4; i < 10; i++) {
+            int before = i == 4 ? 2 : i - 1;
+            x.cable(port(before, 2), port(i, 0));
+            x.address(port(before, 2), 12 + 4 * (i - 4), 4);
+            x.address(port(i, 0), 13 + 4 * (i - 4), 4);
+        }
+        both("the eighth router passes to the ninth", x, 3, 9, 4);
+        x.address(port(9, 1), 50, 6);
+        for (int r = 0; r < 9; r++) if (r != 3) x.route(r, 50, 6, r < 2 ? 4 * r + 1 : r == 2 ? 13 : 13 + 4 * (r - 3));
+        both("with another address there", x, 3, 9, 8);
+        due("its way", x.way(3, 50, 0, 7), 8);
+        x.address(port(9, 1), 51, 6);
+        due("eight are passed: it is old at the ninth", x.proved(3, 50, 0), 10 * OLD + 9);
+        both("of the new one nothing is known behind 7", x, 3, 9, 4);
+        x.route(0, 63, 0, 1);
+        both("but by a route for all", x, 3, 9, 8);
     }
 
     private static void promise24Proved() {
@@ -1237,6 +1481,8 @@ public final class PromisesTest {
         due("fails at the second", x.way(3, 6, 0, 0), 0);
         due("which is none", x.way(3, 6, 0, 1), NONE);
         due("straight", x.way(3, 62, 0, 0), NONE);
+        x.address(port(2, 1), 24, 3);
+        due("routers have learnt it", x.way(3, 24, 0, 1), 1);
         due("fails at the host", x.way(3, 61, 0, 0), NONE);
         x.rule(1, 0, 0, 0, 0, 1, false);
         due("filtered at the second", x.way(3, 5, 1, 1), NONE);

@@ -204,8 +204,7 @@ public final class DrystoneSimnet {
     public int learnt(int router, int address, int length) throws IndexOutOfBoundsException, IllegalArgumentException {
         needBox(router);
         needArgument(wiring.kindOf(router) == ROUTER && isAddress(address) && length >= 1 && length <= BITS);
-        int entry = routing.current.entries[router][prefixNumber(address, length)];
-        return entry == 0 ? NONE : entry;
+        return routing.learntOf(router, prefixNumber(address, length));
     }
 
     // ---- proofs, in the settled net
@@ -616,6 +615,17 @@ public final class DrystoneSimnet {
             return NONE;
         }
 
+        /** Whether a prefix is a router's own. */
+        boolean connects(int router, int prefix) {
+            int first = firstPortOf(router);
+            for (int port = first; port < first + ROUTER_PORTS; port++) {
+                if (prefixes[port] == prefix) {
+                    return true;
+                }
+            }
+            return false;
+        }
+
         /** The port of a router's connected route to an address. */
         int connectedFor(int router, int address) {
             int first = firstPortOf(router);
@@ -992,27 +1002,24 @@ public final class DrystoneSimnet {
             int hop = HOP * ownNumber(port) + next;
             int first = firstPortOf(speaker);
             for (int its = first; its < first + ROUTER_PORTS; its++) {
-                if (addresses.prefixes[its] != NONE) {
-                    offer(router, addresses.prefixes[its], FAR + hop);
+                int prefix = addresses.prefixes[its];
+                if (prefix != NONE && !addresses.connects(router, prefix)) {
+                    spare.offer(router, prefix, FAR + hop);
                 }
             }
             for (int i = 0; i < before.counts[speaker]; i++) {
                 int prefix = before.known[speaker][i];
                 int distance = before.entries[speaker][prefix] / FAR + 1;
-                if (distance <= FARTHEST) {
-                    offer(router, prefix, FAR * distance + hop);
+                if (distance <= FARTHEST && !addresses.connects(router, prefix)) {
+                    spare.offer(router, prefix, FAR * distance + hop);
                 }
             }
         }
 
-        private void offer(int router, int prefix, int entry) {
-            int first = firstPortOf(router);
-            for (int port = first; port < first + ROUTER_PORTS; port++) {
-                if (addresses.prefixes[port] == prefix) {
-                    return;
-                }
-            }
-            spare.offer(router, prefix, entry);
+        /** A prefix may have become the router's own since the tick in which the table did: then nothing is learnt of it. */
+        int learntOf(int router, int prefix) {
+            int entry = addresses.connects(router, prefix) ? 0 : current.entries[router][prefix];
+            return entry == 0 ? NONE : entry;
         }
 
         /** The hop by which a host sends; minus the fate if it fails. */

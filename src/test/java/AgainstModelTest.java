@@ -25,7 +25,7 @@ public final class AgainstModelTest {
     private static final long[] FATES = new long[9];
     private static final long[] PROOFS = new long[9];
     private static final long[] THROWN = new long[24];
-    private static long replies, translated, mostFrames, farthest, reached;
+    private static long replies, translated, mostFrames, farthest, reached, takenLearnt;
 
     private AgainstModelTest(long seed) { this.seed = seed; random = new Random(seed); }
 
@@ -219,6 +219,24 @@ public final class AgainstModelTest {
         }
     }
 
+    /** A router's port comes into a prefix that the router has learnt, so that this is its own, for a while or for good. */
+    private void takeLearnt() {
+        int router = boxOf(Model.ROUTER);
+        if (router >= kinds.size() || model.boxes.get(router).learnt.isEmpty()) return;
+        List<String> all = new ArrayList<>(model.boxes.get(router).learnt.keySet());
+        String bits = all.get(any(all.size()));
+        int spare = 6 - bits.length(), address = (Integer.parseInt(bits, 2) << spare) + any(1 << spare);
+        int port = portOf(router), before = model.ports[port].address, length = model.ports[port].length;
+        call(ADDRESS, port, address, bits.length());
+        if (call(LEARNT, router, address, bits.length()) == Model.NONE) takenLearnt++;
+        askSome();
+        if (before != Model.NONE && chance(60)) {
+            if (chance(50)) call(TICK, 1 + any(2));
+            call(ADDRESS, port, before, length);
+        }
+        call(LEARNT, router, address, bits.length());
+    }
+
     private void turnOne() {
         int cable = any(Math.max(1, model.cables.size()));
         for (int c = 0; c < model.cables.size() && chance(60); c++) if (model.cables.get(c).broken) cable = c;
@@ -306,6 +324,7 @@ public final class AgainstModelTest {
             else if (dice < 55) turnOne();
             else if (dice < 57) call(NET, portOf(boxOf(Model.BRIDGE)), any(5));
             else if (dice < 58) call(ADDRESS, station(), usedAddress(), 1 + any(6));
+            else if (dice < 59) takeLearnt();
             else if (dice < 63) tellRouter();
             else if (dice < 67) callWildly();
             else askSome();
@@ -323,7 +342,8 @@ public final class AgainstModelTest {
             if (test.wrong) wrong++;
         }
         System.out.println("fates " + Arrays.toString(FATES) + ", proved " + Arrays.toString(PROOFS) + ", replies " + replies
-            + ", to translated ones " + translated + ", most frames " + mostFrames + ", farthest " + farthest + ", headers reached " + reached);
+            + ", to translated ones " + translated + ", most frames " + mostFrames + ", farthest " + farthest + ", headers reached " + reached
+            + ", learnt prefixes that became own ones " + takenLearnt);
         System.out.println("thrown " + Arrays.toString(THROWN));
         System.out.println(runs + " runs, " + wrong + " with a wrong answer");
         if (wrong != 0) System.exit(1);

@@ -1,4 +1,6 @@
 import java.io.IOException;
+import java.io.PrintWriter;
+import java.io.StringWriter;
 import java.lang.reflect.Constructor;
 import java.lang.reflect.Method;
 import java.lang.reflect.Modifier;
@@ -6,10 +8,13 @@ import java.nio.file.Files;
 import java.nio.file.Path;
 import java.util.ArrayList;
 import java.util.List;
+import java.util.Map;
 import java.util.Set;
+import java.util.TreeMap;
 import java.util.TreeSet;
 import java.util.regex.Matcher;
 import java.util.regex.Pattern;
+import java.util.spi.ToolProvider;
 
 /** The rules of LANGUAGE.md that can be seen by looking at the text of the class, or at the class itself. */
 public final class LanguageTest {
@@ -85,7 +90,58 @@ public final class LanguageTest {
         }
     }
 
+    /** What each method calls, by the machine's own listing of the class. */
+    private static Map<String, Set<String>> callsOfMethods(ToolProvider lister) {
+        Map<String, Set<String>> calls = new TreeMap<>();
+        List<String> names = new ArrayList<>(List.of("DrystoneSimnet"));
+        for (Class<?> c : DrystoneSimnet.class.getDeclaredClasses()) names.add(c.getName());
+        Pattern head = Pattern.compile("^  \\S(?:.*[ .$])?(\\w+)\\(.*;$");
+        Pattern call = Pattern.compile("// Method (?:([\\w$/]+)\\.)?\"?([\\w<>]+)\"?:");
+        for (String name : names) {
+            StringWriter text = new StringWriter();
+            PrintWriter out = new PrintWriter(text);
+            lister.run(out, out, "-c", "-p", "-cp", System.getProperty("java.class.path"), name);
+            Set<String> made = new TreeSet<>();
+            for (String line : text.toString().split("\\R")) {
+                Matcher m = head.matcher(line), n = call.matcher(line);
+                if (m.find()) {
+                    String own = name.endsWith(m.group(1)) ? "<init>" : m.group(1);
+                    made = calls.computeIfAbsent(name + "." + own, k -> new TreeSet<>());
+                } else if (n.find()) {
+                    made.add((n.group(1) == null ? name : n.group(1)) + "." + n.group(2));
+                }
+            }
+        }
+        return calls;
+    }
+
+    private static int depth(String method, Map<String, Set<String>> calls, int above) {
+        int deepest = 0;
+        for (String called : above < 20 ? calls.get(method) : Set.<String>of()) {
+            if (calls.containsKey(called)) deepest = Math.max(deepest, depth(called, calls, above + 1));
+        }
+        return deepest + 1;
+    }
+
+    private static void shallowCalls() {
+        ToolProvider lister = ToolProvider.findFirst("javap").orElse(null);
+        if (lister == null) {
+            System.out.println("there is no javap here: how deep calls go is not looked at");
+            return;
+        }
+        Map<String, Set<String>> calls = callsOfMethods(lister);
+        Checks.due("the listing has the face and more", calls.size() > 100 && calls.containsKey("DrystoneSimnet.tick"), true);
+        int deepest = 0;
+        for (String method : calls.keySet()) {
+            int depth = depth(method, calls, 0);
+            deepest = Math.max(deepest, depth);
+            Checks.due("calls at most 8 deep from " + method + ", which has " + depth, depth <= 8, true);
+        }
+        Checks.due("the listing tells who calls whom", deepest > 3, true);
+    }
+
     public static void main(String[] args) throws IOException {
+        shallowCalls();
         List<String> code = code();
         nothingRuledOut(code);
         smallMethods(code);

@@ -405,6 +405,8 @@ final class Model {
     }
     int learnt(int router, int address, int length) {
         outside(!isBox(router)); illegal(kind(router) != ROUTER || !in(address, 0, 63) || !in(length, 1, 6));
+        for (int p = 4 * router; p < 4 * router + 3; p++)
+            if (ports[p].address != NONE && ports[p].length == length && has(ports[p].address, length, address)) return NONE;
         Learnt l = boxes.get(router).learnt.get(bits(address, length));
         return l == null ? NONE : 10000 * l.distance + 100 * l.own + l.next;
     }

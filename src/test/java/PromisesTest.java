@@ -1054,8 +1054,40 @@ public final class PromisesTest {
             y.tick(1);
             due("forgotten at once, as nobody else tells it", y.learnt(0, 4, 4), NONE);
         }
+        learntOfOwn();
         countingUp();
         tiesOfLearning();
+    }
+    /** What is learnt of a prefix is hidden from the moment it is an own one, and only as long as it is. */
+    private static void learntOfOwn() {
+        for (int own = 0; own < 3; own++) {
+            DrystoneSimnet x = boxes(ROUTER, ROUTER);
+            x.cable(port(0, 0), port(1, 0));
+            x.address(port(0, 0), 0, 1);
+            x.address(port(1, 0), 0, 1);
+            x.address(port(1, 1), 16, 3);
+            x.address(port(1, 2), 16, 2);
+            x.tick(1);
+            String by = "by the port " + own + ": ";
+            due(by + "learnt", x.learnt(0, 16, 3), 10000 + port(1, 0));
+            x.address(port(0, own), 17, 3);
+            due(by + "its own", x.learnt(0, 16, 3), NONE);
+            due(by + "another address of its own", x.learnt(0, 23, 3), NONE);
+            due(by + "a shorter one is another one", x.learnt(0, 16, 2), 10000 + port(1, 0));
+            due(by + "the one who tells it has not learnt it", x.learnt(1, 16, 3), NONE);
+            x.address(port(0, own), 17, 4);
+            due(by + "a longer one is no longer the same", x.learnt(0, 16, 3), 10000 + port(1, 0));
+            x.address(port(0, own), 25, 3);
+            due(by + "nor is its neighbour", x.learnt(0, 16, 3), 10000 + port(1, 0));
+            x.address(port(0, own), 16, 3);
+            due(by + "its own again", x.learnt(0, 16, 3), NONE);
+            x.tick(1);
+            due(by + "its own in the next tick", x.learnt(0, 16, 3), NONE);
+            x.address(port(0, own), 0, 1);
+            due(by + "not learnt by an address", x.learnt(0, 16, 3), NONE);
+            x.tick(1);
+            due(by + "learnt in a tick", x.learnt(0, 16, 3), 10000 + port(1, 0));
+        }
     }
     /** A prefix that is gone is told around among routers until it is too far. */
     private static void countingUp() {

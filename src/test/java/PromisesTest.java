@@ -1,64 +1,5 @@
 /** Each promise of the document, by ordinary inputs, by its edges and by wrong inputs. */
-public final class PromisesTest {
-    private static final int NONE = DrystoneSimnet.NONE, HOST = DrystoneSimnet.HOST, BRIDGE = DrystoneSimnet.BRIDGE,
-        ROUTER = DrystoneSimnet.ROUTER, TRUNK = DrystoneSimnet.TRUNK;
-    private static final int FLYING = 0, DELIVERED = 1, NO_ROUTE = 2, NO_ONE = 3, FILTERED = 4, OLD = 5, POOL = 6, WRONG = 7, LOST = 8;
-    private static final int LEAST = Integer.MIN_VALUE, MOST = Integer.MAX_VALUE;
-
-    private static void due(String what, long got, long want) { Checks.due(what, got, want); }
-    private static void due(String what, boolean got, boolean want) { Checks.due(what, got, want); }
-    private static void outside(String what, Checks.Call call) { Checks.outside(what, call); }
-    private static void illegal(String what, Checks.Call call) { Checks.illegal(what, call); }
-    private static void full(String what, Checks.Call call) { Checks.full(what, call); }
-
-    private static DrystoneSimnet boxes(int... kinds) {
-        DrystoneSimnet x = new DrystoneSimnet();
-        for (int kind : kinds) x.box(kind);
-        return x;
-    }
-    private static int port(int box, int own) { return 4 * box + own; }
-    private static void fate(String what, DrystoneSimnet x, int packet, int fate, int where, int source) {
-        due(what + ": fate", x.fate(packet), fate);
-        due(what + ": where", x.where(packet), where);
-        due(what + ": source", x.source(packet), source);
-    }
-
-    /** Host 0 with 1/3, router 1 with 2/3 and 9/3, host 2 with 10/3, all in a row. */
-    private static DrystoneSimnet row() {
-        DrystoneSimnet x = boxes(HOST, ROUTER, HOST);
-        x.cable(port(0, 0), port(1, 0));
-        x.cable(port(1, 1), port(2, 0));
-        x.address(port(0, 0), 1, 3);
-        x.address(port(1, 0), 2, 3);
-        x.address(port(1, 1), 9, 3);
-        x.address(port(2, 0), 10, 3);
-        x.gateway(0, 2);
-        x.gateway(2, 9);
-        return x;
-    }
-
-    /** Two hosts, 0 with 1/3 and 1 with 2/3, on bridge 2 at its ports 0 and 1. */
-    private static DrystoneSimnet pair() {
-        DrystoneSimnet x = boxes(HOST, HOST, BRIDGE);
-        x.cable(port(0, 0), port(2, 0));
-        x.cable(port(1, 0), port(2, 1));
-        x.address(port(0, 0), 1, 3);
-        x.address(port(1, 0), 2, 3);
-        return x;
-    }
-
-    /** Routers in a chain: the link from router i, by its port 1, to the next one, by its port 0, is 4i/4, with 4i and 4i + 1. */
-    private static DrystoneSimnet chain(int many) {
-        DrystoneSimnet x = new DrystoneSimnet();
-        for (int i = 0; i < many; i++) x.box(ROUTER);
-        for (int i = 0; i + 1 < many; i++) {
-            x.cable(port(i, 1), port(i + 1, 0));
-            x.address(port(i, 1), 4 * i, 4);
-            x.address(port(i + 1, 0), 4 * i + 1, 4);
-        }
-        return x;
-    }
-
+public final class PromisesTest extends Nets {
     private static void promise1NewObject() {
         DrystoneSimnet x = new DrystoneSimnet();
         due("frames of a new net", x.frames(), 0);
@@ -507,23 +448,6 @@ public final class PromisesTest {
         due("a reply is noted, too: its reply passes", y.fate(again), DELIVERED);
     }
 
-    /** Host 0 with 1/2 and host 4 with 3/2 on bridge 3, router 1 with 2/2 and 33/2, host 2 with 34/2. */
-    private static DrystoneSimnet shared() {
-        DrystoneSimnet x = boxes(HOST, ROUTER, HOST, BRIDGE, HOST);
-        x.cable(port(0, 0), port(3, 0));
-        x.cable(port(4, 0), port(3, 1));
-        x.cable(port(1, 0), port(3, 2));
-        x.cable(port(1, 1), port(2, 0));
-        x.address(port(0, 0), 1, 2);
-        x.address(port(4, 0), 3, 2);
-        x.address(port(1, 0), 2, 2);
-        x.address(port(1, 1), 33, 2);
-        x.address(port(2, 0), 34, 2);
-        x.gateway(0, 2);
-        x.gateway(4, 2);
-        x.gateway(2, 33);
-        return x;
-    }
     private static int sentFrom(DrystoneSimnet x, int host, int ticks) {
         int packet = x.send(host, 34, 0);
         x.tick(ticks);

@@ -471,6 +471,34 @@ public final class BoundsTest extends Nets {
         }
     }
 
+    /** Not even if the next router would have a way: 8 routers behind the first one is what it does not know. */
+    private static void learntRoutesLeadNoOthers() {
+        for (int length = 2; length <= 6; length++) {
+            DrystoneSimnet x = new DrystoneSimnet();
+            for (int i = 0; i < 9; i++) x.box(ROUTER);
+            x.box(HOST);
+            x.cable(port(9, 0), port(0, 0));
+            x.address(port(9, 0), 32, 5);
+            x.address(port(0, 0), 33, 5);
+            x.gateway(9, 33);
+            for (int i = 0; i < 8; i++) {
+                x.cable(port(i, 1), port(i + 1, 0));
+                x.address(port(i, 1), 34 + 2 * i, 5);
+                x.address(port(i + 1, 0), 35 + 2 * i, 5);
+                if (i > 0) x.route(i, 0, 0, 35 + 2 * i);
+            }
+            int next = 64 >> length;
+            x.address(port(1, 2), 0, length);
+            x.address(port(8, 2), next, 6);
+            due("in 0/" + length, x.proved(9, next - 1, 0), length == 6 ? 10 * DELIVERED + 1 : 10 * NO_ONE + 1);
+            due("behind it", x.proved(9, next, 0), 10 * NO_ROUTE + 0);
+            both("by the link alone, which is 7 away", x, 9, 8, 4);
+            x.route(0, 0, 0, 35);
+            due("by a told one", x.proved(9, next, 0), 10 * DELIVERED + 8);
+            both("likewise", x, 9, 8, 8);
+        }
+    }
+
     /** The least distance goes first, then the lowest own port, then the lowest next port. */
     private static void leastIsLearnt() {
         for (int near = 0; near < 3; near++) for (int far = 0; far < 3; far++) {
@@ -1255,6 +1283,7 @@ public final class BoundsTest extends Nets {
         distances();
         prefixesThatAreLearnt();
         prefixesOfLearntRoutes();
+        learntRoutesLeadNoOthers();
         leastIsLearnt();
         prefixesOfRules();
         eightRules();

@@ -171,6 +171,60 @@ public final class AgainstModelTest extends Calls {
         }
     }
 
+    /** Routers in a ring, hosts at some, and told routes that lead one address round and round. */
+    private void buildRing() {
+        int routers = 3 + any(6);
+        for (int i = 0; i < routers; i++) addBox(Model.ROUTER);
+        for (int i = 0; i < routers; i++) {
+            int next = (i + 1) % routers;
+            call(CABLE, 4 * i + 1, 4 * next);
+            call(ADDRESS, 4 * i + 1, 4 * i, 4);
+            call(ADDRESS, 4 * next, 4 * i + 1, 4);
+        }
+        for (int i = 0; i < 4 && kinds.size() < 10; i++) {
+            int router = any(routers), host = addBox(Model.HOST);
+            if (model.cableOf(4 * router + 2) != Model.NONE) continue;
+            call(CABLE, 4 * router + 2, 4 * host);
+            call(ADDRESS, 4 * router + 2, 32 + 4 * i, 4);
+            call(ADDRESS, 4 * host, 33 + 4 * i, 4);
+            call(GATEWAY, host, 32 + 4 * i);
+        }
+        int round = chance(20) ? usedAddress() : any(64);
+        for (int i = 0; i < routers; i++) if (chance(98)) call(ROUTE, i, round, oneOf(0, 3, 6, 6), 4 * i + 1);
+        for (int host = routers; host < kinds.size(); host++) {
+            call(SEND, host, round, any(4));
+            prove(host, round, any(4));
+            for (int place = 0; place < 9; place++) call(WAY, host, round, any(4), place);
+        }
+    }
+
+    /** Hosts on a bridge, behind a router that has a pool at its other port, another router and a host that answers. */
+    private void buildPools() {
+        for (int i = 0; i < 3; i++) addBox(Model.HOST);
+        addBox(Model.BRIDGE);
+        addBox(Model.ROUTER);
+        addBox(Model.ROUTER);
+        addBox(Model.HOST);
+        for (int i = 0; i < 4; i++) {
+            int port = i < 3 ? 4 * i : 16;
+            call(CABLE, port, 12 + i);
+            call(ADDRESS, port, 9 + i, 3);
+            if (i < 3) call(GATEWAY, i, 12);
+        }
+        call(CABLE, 17, 20);
+        call(ADDRESS, 17, 17, 3);
+        call(ADDRESS, 20, 18, 3);
+        call(CABLE, 21, 24);
+        call(ADDRESS, 21, 25, 3);
+        call(ADDRESS, 24, 26, 3);
+        call(GATEWAY, 6, 25);
+        call(POOLS, 17, 19 + any(3), 1 + any(3));
+        if (chance(40)) call(POOLS, 21, 27 + any(3), 1 + any(2));
+        if (chance(50)) call(WATCH, 4, 1);
+        call(TICK, 2);
+        for (int i = 0; i < 3; i++) if (chance(80)) call(SEND, i, 26, any(2));
+    }
+
     private void tellRouter() {
         int r = boxOf(Model.ROUTER);
         switch (any(6)) {
@@ -258,13 +312,14 @@ public final class AgainstModelTest extends Calls {
                 call(ANEW, host, to);
                 break;
             }
-            case 10: {
-                int answer = call(PROVED, boxOf(Model.HOST), usedAddress(), any(4));
-                if (answer >= 0) PROOFS[answer / 10]++;
-                break;
-            }
+            case 10: prove(boxOf(Model.HOST), usedAddress(), any(4)); break;
             default: call(WAY, boxOf(Model.HOST), usedAddress(), any(4), any(4)); break;
         }
+    }
+
+    private void prove(int host, int dest, int service) {
+        int answer = call(PROVED, host, dest, service);
+        if (answer >= 0) PROOFS[answer / 10]++;
     }
 
     private void callWildly() {
@@ -276,10 +331,17 @@ public final class AgainstModelTest extends Calls {
         call(op, a);
     }
 
-    private void run() {
+    private void buildAny() {
         buildBoxes();
         giveAddresses();
         for (int i = any(8); i > 0; i--) tellRouter();
+    }
+
+    private void run() {
+        int shape = any(6);
+        if (shape == 0) buildRing();
+        else if (shape == 1) buildPools();
+        else buildAny();
         if (chance(70)) call(TICK, 8);
         while (calls < 512 && !wrong) {
             int dice = any(100);
@@ -310,6 +372,18 @@ public final class AgainstModelTest extends Calls {
             + ", learnt prefixes that became own ones " + takenLearnt);
         System.out.println("thrown " + Arrays.toString(THROWN));
         System.out.println(runs + " runs, " + wrong + " with a wrong answer");
-        if (wrong != 0) System.exit(1);
+        if (wrong != 0 || args.length == 0 && !meetsAll()) System.exit(1);
+    }
+
+    /** Runs that meet nothing find nothing. */
+    private static boolean meetsAll() {
+        boolean all = replies > 0 && translated > 0 && takenLearnt > 0 && mostFrames == 64 && farthest >= 40000 && reached > 0;
+        for (int fate = Model.DELIVERED; fate <= Model.LOST; fate++) {
+            boolean proves = fate == Model.POOL || fate == Model.LOST || PROOFS[fate] > 0;
+            if (FATES[fate] < 20 || !proves) System.out.println("too few packets met the fate " + fate);
+            all &= FATES[fate] >= 20 && proves;
+        }
+        if (!all) System.out.println("the runs do not meet all that they should");
+        return all;
     }
 }

@@ -1445,6 +1445,21 @@ public final class PromisesTest extends Nets {
         due("but it passes the first", x.way(3, 5, 1, 0), 0);
     }
 
+    private static void exampleOfReadme() {
+        DrystoneSimnet net = new DrystoneSimnet();
+        int host = net.box(DrystoneSimnet.HOST);
+        int router = net.box(DrystoneSimnet.ROUTER);
+        net.cable(4 * host, 4 * router);
+        net.address(4 * host, 1, 3);
+        net.address(4 * router, 2, 3);
+        net.address(4 * router + 1, 9, 3);
+        net.gateway(host, 2);
+        int packet = net.send(host, 9, 0);
+        net.tick(1);
+        fate("the example of README.md", net, packet, DELIVERED, 1, 1);
+        due("its headers", net.reach(host, router), 8);
+    }
+
     public static void main(String[] args) {
         promise1NewObject();
         promise2Box();
@@ -1470,6 +1485,7 @@ public final class PromisesTest extends Nets {
         promise22And23Reach();
         promise24Proved();
         promise25Way();
+        exampleOfReadme();
         Checks.end("PromisesTest");
     }
 }
